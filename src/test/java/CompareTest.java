@@ -78,7 +78,7 @@ public final class CompareTest {
         x.weight(1, 1, 9);
         x.weight(3, 1, 0);
         E.compared(x, 1, 2, 6);
-        E.yes("joined(1, 0) is too large", !x.joined(1, 0));
+        E.no("joined(1, 0): 101 together", x.joined(1, 0));
         E.yes("missing(1)", x.missing(1));
         E.compared(x, 1, 1, 3);
         E.yes("missing(0)", x.missing(0));

@@ -17,11 +17,14 @@ public final class PlanTest {
         E.end();
     }
 
-    /** Strata of the same size with two bags each, one of 0 and one of these grams: spread grams * grams / 2. */
+    /**
+     * Strata of the same size with two bags each, one of 0 and one of these grams: spread grams * grams / 2.
+     * The size is small, so that a bound over 1000 can come as near to a plan's spread as can be.
+     */
     private static StratumCounts pairs(long... grams) {
         StratumCounts x = new StratumCounts(0);
         for (int s = 0; s < grams.length; s++) {
-            E.same("stratum", x.stratum(10), s);
+            E.same("stratum", x.stratum(1), s);
             E.bagOf(x, s, 0);
             E.bagOf(x, s, grams[s]);
         }
@@ -41,6 +44,7 @@ public final class PlanTest {
         // Six bags each, all at the highest cost: (1/4) * (1/2) * (2/6) is 1/24.
         E.same("the dearest plan of two", x.plan(0, 42, 1000), 1200000);
         E.planned(x, 6, 6);
+        E.none("just not enough", x.plan(0, 41, 1000));
     }
 
     private static void costRefuses() {
@@ -189,7 +193,7 @@ public final class PlanTest {
         x.weight(0, 0, 4);
         x.cost(0, 50);
         x.missing(1);
-        x.draw(0, 3);
+        x.draw(0, 1);
         E.yes("joined(0, 1)", x.joined(0, 1));
         E.planned(x, 1, 2);
     }
