@@ -1,5 +1,3 @@
-import java.math.BigInteger;
-
 /** Counts the answers that are not as due, prints them, and ends the test with exit code 1 if there was one. */
 final class Expect {
     private final String test;
@@ -18,55 +16,12 @@ final class Expect {
         }
     }
 
-    void yes(String call, boolean got) {
-        same(call, got ? 1 : 0, 1);
+    void yes(String what, boolean so) {
+        same(what, so ? 1 : 0, 1);
     }
 
-    void no(String call, boolean got) {
-        same(call, got ? 1 : 0, 0);
-    }
-
-    void none(String call, long got) {
-        same(call, got, StratumCounts.NONE);
-    }
-
-    void fraction(String call, long gotAbove, long gotBelow, long above, long below) {
-        same(call + " above", gotAbove, above);
-        same(call + " below", gotBelow, below);
-        BigInteger shared = BigInteger.valueOf(above).gcd(BigInteger.valueOf(below));
-        if (!shared.equals(BigInteger.ONE)) {
-            throw new IllegalStateException("the test's own fraction is not in lowest terms: " + call);
-        }
-    }
-
-    void mean(StratumCounts x, int kind, long above, long below) {
-        fraction("mean of " + kind, x.mean(kind, 0), x.mean(kind, 1), above, below);
-    }
-
-    void spread(StratumCounts x, int kind, long above, long below) {
-        fraction("spread of " + kind, x.spread(kind, 0), x.spread(kind, 1), above, below);
-    }
-
-    void error(StratumCounts x, int kind, long above, long below) {
-        fraction("error of " + kind, x.error(kind, 0), x.error(kind, 1), above, below);
-    }
-
-    void compared(StratumCounts x, int kind, long far, long all) {
-        same("compared ways that are as far of " + kind, x.compared(kind, 0), far);
-        same("compared ways of " + kind, x.compared(kind, 1), all);
-    }
-
-    void planned(StratumCounts x, long... due) {
-        for (int s = 0; s < due.length; s++) {
-            same("planned(" + s + ")", x.planned(s), due[s]);
-        }
-    }
-
-    /** One more bag of a stratum, with grams of kind 0. */
-    int bagOf(StratumCounts x, int stratum, long grams) {
-        int bag = x.bag(stratum);
-        yes("weight of bag " + bag, x.weight(bag, 0, grams));
-        return bag;
+    void no(String what, boolean so) {
+        same(what, so ? 1 : 0, 0);
     }
 
     void end() {
